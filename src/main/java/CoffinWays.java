@@ -877,10 +877,8 @@ public final class CoffinWays {
             saw = new int[WITNESSES];
         }
 
+        /** What was foretold here is gone; the law that is read next says the rest. */
         void clear() {
-            there = false;
-            church = 0;
-            lives = 0;
             year = 0;
             paths = 0;
             witnesses = 0;
@@ -1010,9 +1008,9 @@ public final class CoffinWays {
         }
 
         int waysBehind(Coffin coffin) {
-            int behind = ways();
+            int behind = 0;
             for (int i = 0; i < witnesses; i++) {
-                behind |= seenBy(i, coffin);
+                behind |= swears(i) | seenBy(i, coffin);
             }
             return behind;
         }

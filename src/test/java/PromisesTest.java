@@ -115,9 +115,11 @@ public final class PromisesTest {
         due("2 bad lane ahead of size", x.row(0, 3, -1), BAD);
         due("2 size changes nothing", x.drop(0), 0);
         x.row(1, 2, 3);
+        x.set(1, 0, 9);
         x.set(1, 2, 9);
         due("2 in place", x.row(1, 2, 4), 4);
         tell(x, "c0,40;p0,1,1;n41,1;");
+        due("2 items are 0 then", x.from(1, 0), 2);
         due("2 items are 0 then", x.from(1, 2), 2);
         due("2 another lane", x.row(1, 0, 4), 4);
         due("2 the lane is new", x.set(1, 0, 200), -56);
@@ -246,6 +248,7 @@ public final class PromisesTest {
         due("7 all stays: acts", x.count(6), 4);
         due("7 all stays: ways", x.stand(0), 12);
         due("7 all stays: gates", x.stand(1), 1);
+        due("7 what is foretold leaves no mark", x.drawn(1, 4, 1), 1);
         due("7 another one", tell(x, "c07,90;p07,00,09;m60,07;"), 1);
         due("7 year", x.count(3), 0);
         due("7 acts", x.count(6), 0);
@@ -567,6 +570,8 @@ public final class PromisesTest {
         due("15 nobody", x.path(0, 4), 0);
         x.years(3);
         due("15 the dead do not", x.path(2, 4), 2 | 32);
+        x.bury(1);
+        due("15 the first one, too", x.path(0, 4), 1 | 8 | 16 | 32);
         due("15 below", x.path(-1, 0), BAD);
         due("15 above", x.path(7, 0), BAD);
         due("15 what below", x.path(0, -1), BAD);
@@ -653,6 +658,9 @@ public final class PromisesTest {
         due("19 of two by field 3", y.goes(7, 1), 1 | 4);
         y.lock(0, 1);
         due("19 the last one", y.goes(7, 1), 16);
+        CoffinWays z = told("c0,20;p6,7,1;p5,6,1;p4,5,1;p3,4,1;p2,3,1;p1,2,1;p0,1,1;p7,0,9;");
+        due("19 through all fields", z.goes(7, 0), 7);
+        due("19 through all fields", z.goes(7, 1), 127);
     }
 
     /** Promise 20. */
@@ -670,6 +678,10 @@ public final class PromisesTest {
         due("20 one more", x.stop(3, 0), 1);
         due("20 one more", x.stop(3, 1), 1);
         due("20 nothing changes", x.stand(1), 4);
+        due("20 of three the least, near church", told("c3,20;p2,3,1;p1,2,1;p0,1,1;").stop(0, 1), 1);
+        due("20 of three the least, near the field", told("c3,20;p0,1,1;p1,2,1;p2,3,1;").stop(0, 1), 1);
+        due("20 of three the least, between", told("c3,20;p1,2,1;p0,1,1;p2,3,1;").stop(0, 1), 1);
+        due("20 the fewest, not the least", told("c3,20;p0,1,1;p0,2,1;p1,2,1;p2,3,1;").stop(0, 1), 8);
         due("20 field", x.stop(8, 0), BAD);
         due("20 field", x.stop(-1, 0), BAD);
         due("20 what", x.stop(0, 2), BAD);
@@ -758,6 +770,8 @@ public final class PromisesTest {
         }
         due("24 from none", x.best(0), NONE);
         due("24 from none", x.best(1), NONE);
+        due("24 from field 0", told("c1,20;p0,1,1;s0,0;").best(0), 0);
+        due("24 from field 0", told("c1,20;p0,1,1;s0,0;").best(1), 1);
         due("24 below", x.best(-1), BAD);
         due("24 above", x.best(2), BAD);
     }
@@ -785,6 +799,10 @@ public final class PromisesTest {
         x.bury(4);
         due("25 from 2, 3, 4", x.from(0, 1), 28);
         due("25 nothing changes", x.stand(0), 44);
+        CoffinWays y = told("c1,20;p0,1,1;p2,1,1;s0,0;");
+        y.row(0, 0, 1);
+        y.set(0, 0, 1);
+        due("25 from field 0", y.from(0, 0), 1);
         due("25 acts", x.count(6), 1);
     }
 
@@ -921,6 +939,9 @@ public final class PromisesTest {
         CoffinWays y = told("c7,20;p0,1,1;p1,2,1;p2,3,1;p3,4,1;p4,5,1;p5,6,1;p6,7,1;");
         fraction(y, 0, 9, 1, 10000000);
         fraction(y, 0, 3, 823543, 10000000);
+        CoffinWays z = told("c0,20;p0,7,1;p7,1,1;p7,2,1;p7,3,1;p7,4,1;p7,5,1;p7,6,1;p1,2,1;p2,3,1;p3,4,1;p4,5,1;p5,6,1;");
+        fraction(z, 7, 1, 9, 10);
+        fraction(z, 7, 9, 1, 10);
     }
 
     private static void fraction(CoffinWays x, int field, int p, long above, long below) {
