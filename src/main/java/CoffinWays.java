@@ -70,11 +70,9 @@ public final class CoffinWays {
         if (!isRow(row)) {
             return BAD;
         }
-        if (rows.isMissing(row)) {
-            return found(NULL);
-        }
-        if (!rows.has(row, i, 1)) {
-            return found(PLACE);
+        int amiss = rows.amiss(row, i, 1);
+        if (amiss != 0) {
+            return found(amiss);
         }
         return unfound(rows.put(row, i, v));
     }
@@ -374,11 +372,9 @@ public final class CoffinWays {
         if (!isRow(row)) {
             return BAD;
         }
-        if (rows.isMissing(row)) {
-            return found(NULL);
-        }
-        if (!rows.has(row, i, 1)) {
-            return found(PLACE);
+        int amiss = rows.amiss(row, i, 1);
+        if (amiss != 0) {
+            return found(amiss);
         }
         int told = rows.items[row][i];
         int fields = 0;
@@ -394,11 +390,9 @@ public final class CoffinWays {
         if (!now.hasWitness(witness) || !isRow(row) || n < 1 || n > TURNS) {
             return BAD;
         }
-        if (rows.isMissing(row)) {
-            return found(NULL);
-        }
-        if (!rows.has(row, i, 2 * n)) {
-            return found(PLACE);
+        int amiss = rows.amiss(row, i, 2 * n);
+        if (amiss != 0) {
+            return found(amiss);
         }
         for (int turn = 0; turn < n; turn++) {
             if (!isField(rows.items[row][i + 2 * turn])) {
@@ -652,6 +646,11 @@ public final class CoffinWays {
         boolean has(int row, int i, int n) {
             // Not i + n: two large numbers together would wrap around.
             return i >= 0 && n >= 0 && i <= sizes[row] && n <= sizes[row] - i;
+        }
+
+        /** The finding of whoever wants n items from i on; 0: none. */
+        int amiss(int row, int i, int n) {
+            return isMissing(row) ? NULL : has(row, i, n) ? 0 : PLACE;
         }
 
         void lay(int row, int lane, int n) {
