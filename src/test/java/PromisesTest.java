@@ -512,6 +512,7 @@ public final class PromisesTest {
         due("12 lock", x.lock(6, 1), 65);
         due("12 open", x.lock(0, 0), 64);
         due("12 acts", x.count(6), 3);
+        due("12 open: none is locked", x.lock(6, 0), 0);
         due("12 far off", x.lock(32, 1), BAD);
     }
 

@@ -27,6 +27,7 @@ public final class RefusalsTest {
         findings();
         foretold();
         looked();
+        rowsAlone();
         withoutAParish();
         CHECK.end();
     }
@@ -56,6 +57,22 @@ public final class RefusalsTest {
         x.feed('c');
         x.as(0, 5);
         x.drop(7);
+        return x;
+    }
+
+    /** Nobody has seen anything. */
+    private static CoffinWays unseen() {
+        CoffinWays x = rich();
+        for (int acts = 4; acts > 0; acts--) {
+            x.undo();
+        }
+        return x;
+    }
+
+    /** From no field it comes through. */
+    private static CoffinWays shut() {
+        CoffinWays x = rich();
+        x.lock(0, 1);
         return x;
     }
 
@@ -276,14 +293,28 @@ public final class RefusalsTest {
         fine("lost", x -> x.lost(0), 19);
         fine("goes", x -> x.goes(3, 1), 7);
         fine("goes: NONE", x -> x.goes(4, 1), Told.NONE);
+        fine("goes: from church", x -> x.goes(0, 0), 0);
         fine("stop", x -> x.stop(3, 1), 1);
+        fine("stop: not through already", x -> x.stop(7, 0), 0);
+        fine("stop: from church", x -> x.stop(0, 0), Told.NONE);
         fine("must", x -> x.must(3), 7);
+        fine("must: from church", x -> x.must(0), 0);
         fine("live", x -> x.live(7, 1), 2);
+        fine("live: for none", x -> x.live(0, 0), 0);
+        fine("live: NONE", x -> x.live(8, 0), Told.NONE);
         fine("makes", x -> x.makes(3), 0);
+        fine("makes: from church", x -> x.makes(0), Told.NONE);
+        leaves("makes: three", RefusalsTest::unseen, x -> x.makes(3), 3, 3);
         fine("best", x -> x.best(0), 1);
+        fine("best: how many", x -> x.best(1), 0);
+        leaves("best: NONE", RefusalsTest::shut, x -> x.best(0), Told.NONE, 3);
         fine("far", x -> x.far(4), 2);
+        fine("far: from church", x -> x.far(0), 0);
+        fine("far: NONE", x -> x.far(7), Told.NONE);
         fine("pairs", x -> x.pairs(), 1);
+        leaves("pairs: none", RefusalsTest::unseen, x -> x.pairs(), 0, 3);
         fine("locked", x -> x.locked(3, 5, 1), 8);
+        fine("locked: not through", x -> x.locked(4, 5, 0), 0);
         fine("drawn", x -> x.drawn(60, 5, 0), 0);
         fine("drawn", x -> x.drawn(1, 1, 1), 0);
         leaves("from", RefusalsTest::rich, x -> x.from(0, 0), 0, 0);
@@ -301,6 +332,19 @@ public final class RefusalsTest {
         fine("fault", x -> x.fault(), 2);
         fine("status", x -> x.status(), 3);
         leaves("as", RefusalsTest::rich, x -> x.as(4, 4), 4, 0);
+        leaves("as: number 0", RefusalsTest::rich, x -> x.as(0, 1), 0, 0);
+        leaves("fault: none", RefusalsTest::empty, x -> x.fault(), 0, 1);
+    }
+
+    /** What is done to rows leaves all but the row; here the row, too, is as it was. */
+    private static void rowsAlone() {
+        leaves("copy: onto itself", RefusalsTest::rich, x -> x.copy(0, 0, 0, 0, 3), 3, 0);
+        leaves("copy: none", RefusalsTest::rich, x -> x.copy(0, 3, 0, 0, 0), 0, 0);
+        leaves("drop: and laid again", RefusalsTest::rich, x -> {
+            int had = x.drop(1);
+            Told.lay(x, 1, 1, 3, 7);
+            return had;
+        }, 2, 0);
     }
 
     private static void withoutAParish() {
@@ -309,6 +353,17 @@ public final class RefusalsTest {
         leaves("years", RefusalsTest::empty, x -> x.years(1), Told.STATE, 1);
         leaves("lock", RefusalsTest::empty, x -> x.lock(0, 1), Told.BAD, 1);
         leaves("follow", RefusalsTest::empty, x -> x.follow(0), Told.BAD, 1);
+        leaves("stand", RefusalsTest::empty, x -> x.stand(0), Told.STATE, 1);
+        leaves("ahead", RefusalsTest::empty, x -> x.ahead(0), Told.STATE, 1);
+        leaves("goes", RefusalsTest::empty, x -> x.goes(1, 0), Told.STATE, 1);
+        leaves("stop", RefusalsTest::empty, x -> x.stop(1, 0), Told.STATE, 1);
+        leaves("must", RefusalsTest::empty, x -> x.must(1), Told.STATE, 1);
+        leaves("live", RefusalsTest::empty, x -> x.live(0, 0), Told.STATE, 1);
+        leaves("makes", RefusalsTest::empty, x -> x.makes(1), Told.STATE, 1);
+        leaves("best", RefusalsTest::empty, x -> x.best(0), Told.STATE, 1);
+        leaves("far", RefusalsTest::empty, x -> x.far(1), Told.STATE, 1);
+        leaves("pairs", RefusalsTest::empty, x -> x.pairs(), Told.STATE, 1);
+        leaves("locked", RefusalsTest::empty, x -> x.locked(1, 1, 0), Told.STATE, 1);
         leaves("from", RefusalsTest::empty, x -> x.from(0, 0), Told.STATE, 1);
         leaves("who", RefusalsTest::empty, x -> x.who(0, 0, 0, 1), Told.BAD, 1);
         leaves("image", RefusalsTest::empty, x -> x.image(0), Told.STATE, 1);
